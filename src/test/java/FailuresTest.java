@@ -20,6 +20,7 @@ public final class FailuresTest {
         uncaughtBehindTheGiver();
         uncaughtOrder();
         handlersInOrder();
+        everyHandler();
         handledArguments();
         Due.close("FailuresTest");
     }
@@ -432,6 +433,43 @@ public final class FailuresTest {
             Due.is("handled behind the last", -1, x.handled(asked, 0));
             Ops.fails(x, 0, Ops.UNCAUGHT, 1);
         }
+    }
+
+    /** Each ERRAND and each KIND has its own. */
+    private static void everyHandler() {
+        ErrandGuild x = Ops.guild();
+        for (int i = 0; i < 8; i++) {
+            x.handler(0, i, 100 + i, true);
+            x.handler(1, i, 200 + i, false);
+        }
+        int[][] steps = {{Ops.THROW, 0, 0}, {Ops.THROW, 1, 0}, {Ops.THROW, 2, 0}, {Ops.THROW, 3, 0},
+            {Ops.PLUS, 0, 0}, {Ops.FREE, 3, 0}, {Ops.HAND, 6, 0}, {Ops.SPLIT, 0, 4}};
+        for (int e = 0; e < 8; e++) {
+            Ops.program(x, e, steps[e]);
+        }
+        for (int e = 0; e < 6; e++) {
+            x.submit(e);
+        }
+        x.interrupt(4);
+        Ops.beatOut(x);
+        for (int e = 0; e < 6; e++) {
+            int[] rows = {e, 0, 100 + e, 1, e, 1, 200 + e, 0};
+            for (int what = 0; what < 8; what++) {
+                Due.is("handled of errand " + e, rows[what], x.handled(2 * e + what / 4, what % 4));
+            }
+        }
+        x.submit(6);
+        Ops.beatOut(x);
+        // seven runs of errand 6, the last of which goes too deep
+        Due.is("handled of deep", 12, x.handled(12, 0));
+        Due.is("handled of deep", 106, x.handled(12, 2));
+        Due.is("handled of deep", 206, x.handled(13, 2));
+        for (int r = 13; r < 200; r++) {
+            x.submit(7);
+        }
+        Ops.beatOut(x);
+        Due.is("handled of full", 107, x.handled(14, 2));
+        Due.is("handled of full", 207, x.handled(15, 2));
     }
 
     private static void handledArguments() {

@@ -10,6 +10,9 @@ public final class OfficeTest {
         stepLimit();
         tellingWhileThereAreRuns();
         anew();
+        secondLife();
+        secondLifeOfOneOnAThread();
+        secondLifeOfKin();
         threads();
         handlerArguments();
         submitArguments();
@@ -221,6 +224,110 @@ public final class OfficeTest {
         x.beat(1);
         Due.is("wiped: handlers stay", 66, x.handled(0, 2));
         Due.is("wiped: firsts stay", 14, x.value(0, 4));
+    }
+
+    /** What ran before anew must not be felt by the runs behind it: they answer as in a new object. */
+    private static void secondLife() {
+        ErrandGuild old = Ops.guild();
+        writeBusyErrands(old);
+        for (int r = 0; r < 20; r++) {
+            old.submit(r % 3);
+        }
+        for (int i = 0; i < 12; i++) {
+            old.beat(2);
+            old.interrupt(3 * i);
+        }
+        // behind these all 200 have been used, some stand in the midst of their steps, some are interrupted
+        for (int r = old.count(0); r < 200; r++) {
+            old.submit(r % 3);
+        }
+        for (int r = 0; r < 200; r += 2) {
+            old.interrupt(r);
+        }
+        old.anew(true);
+        ErrandGuild fresh = Ops.guild();
+        for (ErrandGuild x : new ErrandGuild[] {old, fresh}) {
+            writeBusyErrands(x);
+            for (int r = 0; r < 9; r++) {
+                x.submit(2 - r % 3);
+            }
+        }
+        for (int beat = 0; beat < 60; beat++) {
+            compare(fresh, old);
+            Due.is("second life: beat", fresh.beat(1), old.beat(1));
+        }
+    }
+
+    private static void secondLifeOfOneOnAThread() {
+        ErrandGuild x = Ops.guild();
+        Ops.program(x, 0, Ops.HAND, 1, 1);
+        Ops.program(x, 1, Ops.WRITE, 0, 5, Ops.BIND, 3, 6, Ops.TRY, 8, 5, Ops.PLUS, 0, 0, Ops.PLUS, 0, 0);
+        x.submit(0);
+        x.beat(4);
+        Due.is("own in the first life", 5, x.value(1, 0));
+        Due.is("bound in the first life", 6, x.value(1, 3));
+        x.anew(true);
+        Ops.program(x, 0, Ops.HAND, 1, 0);
+        Ops.program(x, 1, Ops.THROW, 1, 0);
+        x.submit(0);
+        x.beat(1);
+        Ops.runs(x, 1, Ops.BINDINGS, 0);
+        Ops.runs(x, 1, Ops.TRIES, 0);
+        Due.is("own in the second life", 10, x.value(1, 0));
+        Due.is("bound in the second life", 13, x.value(1, 3));
+        Ops.beatOut(x);
+        // it was waited for in the first life only
+        Ops.fails(x, 1, Ops.UNCAUGHT, 1);
+    }
+
+    private static void secondLifeOfKin() {
+        ErrandGuild x = Ops.guild();
+        Ops.program(x, 0, Ops.SPLIT, 1, 2);
+        Ops.program(x, 1, Ops.HAND, 2, 0);
+        x.submit(0);
+        Ops.beatOut(x);
+        Due.is("runs of the first life", 5, x.count(0));
+        x.anew(true);
+        x.threads(4);
+        Ops.program(x, 0, Ops.HAND, 1, 0, Ops.GATHER, 0, 0);
+        Ops.program(x, 1, Ops.GATHER, 0, 0);
+        for (int i = 0; i < 20; i++) {
+            x.step(2, Ops.PLUS, 0, 1);
+        }
+        x.submit(0);
+        x.beat(1);
+        for (int r = 2; r < 5; r++) {
+            x.submit(2);
+        }
+        x.beat(5);
+        // neither waits for those that were its kin in the first life
+        Ops.runs(x, 1, Ops.OVER, 3);
+        Ops.runs(x, 0, Ops.OVER, 5);
+        Ops.runs(x, 2, Ops.STATE, Ops.ON);
+    }
+
+    private static void writeBusyErrands(ErrandGuild x) {
+        Ops.program(x, 0, Ops.BIND, 3, 5, Ops.TRY, 1, 9, Ops.WRITE, 1, 6, Ops.WRITE, 4, 7, Ops.SPLIT, 1, 2,
+                Ops.HAND, 2, 1, Ops.GATHER, 0, 0, Ops.PLUS, 0, 1, Ops.DONE, 0, 0, Ops.ADD, 3, 0, Ops.ADD, 4, 0);
+        Ops.program(x, 1, Ops.REMARK, 0, 3, Ops.WRITE, 2, 8, Ops.ADD, 1, 0, Ops.THROW, 1, 0);
+        Ops.program(x, 2, Ops.ADD, 2, 0, Ops.ADD, 4, 0, Ops.TRY, 0, 5, Ops.HAND, 1, 0, Ops.BIND, 3, 2,
+                Ops.PLUS, 0, 4);
+    }
+
+    private static void compare(ErrandGuild fresh, ErrandGuild old) {
+        for (int what = 0; what < 22; what++) {
+            Due.is("second life: count(" + what + ")", fresh.count(what), old.count(what));
+        }
+        for (int r = 0; r < fresh.count(0); r++) {
+            for (int what = 0; what < 13; what++) {
+                Due.is("second life: run(" + r + ", " + what + ")", fresh.run(r, what), old.run(r, what));
+                Due.is("second life: failure(" + r + ", " + what + ")", fresh.failure(r, what),
+                        old.failure(r, what));
+                Due.is("second life: value(" + r + ", " + what + ")", fresh.value(r, what), old.value(r, what));
+                Due.is("second life: child(" + r + ", " + what + ")", fresh.child(r, what), old.child(r, what));
+                Due.is("second life: remark(" + r + ", " + what + ")", fresh.remark(r, what), old.remark(r, what));
+            }
+        }
     }
 
     private static void threads() {

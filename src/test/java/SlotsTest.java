@@ -1,6 +1,7 @@
 /** The manners of SLOTS and BINDINGS, and promises 15 (value) and 16 (seen). */
 public final class SlotsTest {
     public static void main(String[] args) {
+        everySlotInEveryManner();
         ownEndsWithTheThread();
         inheritedGoesDown();
         sharedIsOneForTheRoot();
@@ -14,6 +15,28 @@ public final class SlotsTest {
         seen();
         seenLimit();
         Due.close("SlotsTest");
+    }
+
+    /** Bound (else nothing), written, read, handed, read in the child, and read again behind the wait. */
+    private static void everySlotInEveryManner() {
+        int[][] reads = {{40, 30, 30}, {40, 40, 40}, {40, 40, 41}, {40, 40, 40}, {40, 30, 40}};
+        for (int s = 0; s < 8; s++) {
+            for (int manner = 0; manner < 5; manner++) {
+                ErrandGuild x = new ErrandGuild();
+                x.slot(s, manner, 30);
+                boolean isBound = manner == Ops.BOUND;
+                Ops.program(x, 0, isBound ? Ops.BIND : Ops.PLUS, s, 0, Ops.WRITE, s, 40, Ops.ADD, s, 0,
+                        Ops.HAND, 1, 1, Ops.ADD, s, 0);
+                Ops.program(x, 1, Ops.ADD, s, 0, isBound ? Ops.BIND : Ops.WRITE, s, 41);
+                x.submit(0);
+                Ops.beatOut(x);
+                for (int i = 0; i < 3; i++) {
+                    Due.is("slot " + s + " of manner " + manner + ", reading " + i, reads[manner][i], x.seen(i, 2));
+                    Due.is("slot of reading " + i, s, x.seen(i, 1));
+                }
+                Due.is("count(8)", 3, x.count(8));
+            }
+        }
     }
 
     private static void ownEndsWithTheThread() {
