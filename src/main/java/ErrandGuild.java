@@ -191,7 +191,6 @@ public final class ErrandGuild {
         told.interrupted = true;
         if (told.state == WAITS) {
             told.state = READY;
-            settleAwaited(told);
         }
         return true;
     }
@@ -680,7 +679,7 @@ public final class ErrandGuild {
 
     private static int noticeInterrupt(Run run) {
         run.interrupted = false;
-        // one that was READY behind a WAIT fails in place of taking the ANSWERS, and never takes them
+        // those it waited for count as waited for, and it never takes their ANSWERS, even if they were there
         run.returning = false;
         settleAwaited(run);
         return KIND_INTERRUPTED;

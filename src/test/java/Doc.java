@@ -1,0 +1,32 @@
+import java.io.IOException;
+import java.io.UncheckedIOException;
+import java.nio.file.Files;
+import java.nio.file.Path;
+
+/** Ties tests to the document: each names its sentence word for word, so that none is remembered wrongly. */
+final class Doc {
+    private static final Path PATH = Path.of("../shared/DOC.md");
+    private static final String TEXT = flat(read());
+
+    private Doc() {
+    }
+
+    /** What follows tests this part of the document. */
+    static void says(String words) {
+        Due.under("");
+        Due.is("the document says \"" + words + "\"", true, TEXT.contains(flat(words)));
+        Due.under("\"" + words + "\": ");
+    }
+
+    private static String read() {
+        try {
+            return Files.readString(PATH);
+        } catch (IOException e) {
+            throw new UncheckedIOException(e);
+        }
+    }
+
+    private static String flat(String text) {
+        return text.replaceAll("\\s+", " ").trim();
+    }
+}
