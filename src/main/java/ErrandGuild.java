@@ -930,7 +930,7 @@ public final class ErrandGuild {
         private final int[] tryMarks = new int[STEP_LIMIT];
         int tries;
         /**
-         * Grows with every opening. How many BINDINGS were open as a TRY opened can't tell which came since: one
+         * How many TRIES ever opened. How many BINDINGS were open as a TRY opened can't tell which came since: one
          * of those may have been freed and another opened in its place.
          */
         private int marks;
@@ -949,7 +949,6 @@ public final class ErrandGuild {
             bindingValues[bindings] = value;
             bindingMarks[bindings] = marks;
             bindings++;
-            marks++;
         }
 
         private int innermostOf(int slot) {

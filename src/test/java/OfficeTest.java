@@ -12,6 +12,7 @@ public final class OfficeTest {
         anew();
         secondLife();
         secondLifeOfOneOnAThread();
+        secondLifeOfOneBehindAWait();
         secondLifeOfKin();
         threads();
         handlerArguments();
@@ -278,6 +279,20 @@ public final class OfficeTest {
         Ops.beatOut(x);
         // it was waited for in the first life only
         Ops.fails(x, 1, Ops.UNCAUGHT, 1);
+    }
+
+    private static void secondLifeOfOneBehindAWait() {
+        ErrandGuild x = Ops.guild();
+        Ops.program(x, 0, Ops.HAND, 1, 1);
+        x.submit(0);
+        x.beat(2);
+        Ops.runs(x, 0, Ops.STATE, Ops.READY);
+        x.anew(true);
+        Ops.program(x, 0, Ops.PLUS, 0, 6);
+        x.submit(0);
+        x.beat(1);
+        // it has nothing to take from its first life: its first turn is its first step
+        Ops.runs(x, 0, Ops.SUM, 6);
     }
 
     private static void secondLifeOfKin() {
